@@ -59,7 +59,8 @@ public final class FaceTest {
         due("the methods", new TreeSet<>(Arrays.asList(METHODS)), open);
         for (Method method : SongToBridge.class.getDeclaredMethods()) {
             boolean isHidden = Modifier.isPrivate(method.getModifiers());
-            due(heading(method) + " bears the name of a public one", false, isHidden && names.contains(method.getName()));
+            due(heading(method) + " is hidden and bears the name of a public one", false,
+                isHidden && names.contains(method.getName()));
         }
     }
 

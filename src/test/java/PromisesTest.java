@@ -562,6 +562,8 @@ public final class PromisesTest {
         y.singer(0, 0, 30, 6, 10);
         y.teach(0, 5, 10);
         due("any verse opens a deaf one", 5, y.first(0));
+        y.teach(0, 0, 10);
+        due("of like ones a", 0, y.first(0));
     }
 
     private static void cheapest() {
@@ -609,6 +611,13 @@ public final class PromisesTest {
         y.teach(0, 1, 0);
         y.teach(0, 0, 0);
         due("the least bits, not the fewest", 0b000011, y.cheapest(0, 1, 1));
+        SongToBridge z = with("01abcde", "12!abcde", "25?fff");
+        z.singer(0, 0, 0, 1, 99);
+        for (int v = 0; v < 6; v++) {
+            z.teach(v == 5 ? 2 : 0, v, 16);
+        }
+        due("all verses", 96, z.cheapest(0, 5, 0));
+        due("all verses", 63, z.cheapest(0, 5, 1));
     }
 
     private static void choir() {
@@ -640,6 +649,17 @@ public final class PromisesTest {
             due("choir(0, " + n + ", 0)", UNKNOWN, x.choir(0, n, 0));
             due("choir(0, 0, " + n + ")", OUTSIDE, x.choir(0, 0, n));
         }
+        choirOfAll();
+    }
+
+    private static void choirOfAll() {
+        SongToBridge x = with("01a", "12b", "23c", "34d", "45e");
+        for (int s = 0; s < 5; s++) {
+            x.singer(0, 1 << s, 0, 1, 0);
+        }
+        due("all five", 5, x.choir(0, 5, 0));
+        due("all five", 0b11111, x.choir(5, 0, 1));
+        due("four", 0b11110, x.choir(1, 5, 1));
     }
 
     private static void heard() {
@@ -699,7 +719,12 @@ public final class PromisesTest {
         x.heard(0);
         x.heard(1);
         x.heard(0);
-        due("a way that forks nowhere", 0, x.who());
+        due("over twice, with a break", 0, x.who());
+        x.hush();
+        x.heard(3);
+        x.heard(2);
+        x.heard(1);
+        due("a break behind the second", 0, x.who());
         x.hush();
         x.singer(0, 0b10, 4, 1, 0);
         x.heard(3);
@@ -810,8 +835,36 @@ public final class PromisesTest {
         due("restore() with a page", 1, x.restore());
         due("the page is not of the image", 3, x.count(4));
         x.hush();
+        x.heard(0);
         x.restore();
         due("what was heard is back", 1, x.count(3));
+        due("and is the same", before, digestWithoutPage(x));
+        restoreOfTheFirst();
+    }
+
+    private static long digestWithoutPage(SongToBridge x) {
+        x.blank();
+        return x.digest();
+    }
+
+    private static void restoreOfTheFirst() {
+        SongToBridge x = new SongToBridge();
+        x.teach(0, 0, 7);
+        x.image();
+        build(x, "01abcde");
+        x.singer(0, 0b000111, 9, 1, 0);
+        build(x, "01c");
+        x.cross(0, 1);
+        x.teach(0, 0, 8);
+        x.restore();
+        due("the fee of place 0", 7, x.teach(0, 0, 7));
+        build(x, "23!ff");
+        due("a shorter song behind a longer one", 2, x.about(0, 3));
+        due("its third verse", NONE, x.about(0, 7));
+        x.singer(0, 0b000100, 9, 1, 0);
+        x.teach(0, 1, 0);
+        x.learn(0, 1);
+        due("what one who is gone used does not count", 2, x.told(0, 6));
     }
 
     private static void count() {

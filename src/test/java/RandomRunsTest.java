@@ -708,7 +708,8 @@ public final class RandomRunsTest {
                 if (!choices.isEmpty()) {
                     next = next.multiply(BigInteger.valueOf(1103515245)).add(BigInteger.valueOf(12345))
                         .mod(BigInteger.TWO.pow(31));
-                    int draw = next.divide(BigInteger.valueOf(65536)).mod(BigInteger.valueOf(choices.size())).intValue();
+                    int draw = next.divide(BigInteger.valueOf(65536)).mod(BigInteger.valueOf(choices.size()))
+                        .intValue();
                     copy.cross(s, choices.get(draw));
                     crossed++;
                 }
