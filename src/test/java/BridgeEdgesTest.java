@@ -316,8 +316,8 @@ public final class BridgeEdgesTest {
 
     @Says(promise = 5, text = "STATE: it is none")
     private static void faultyTextIsNoBridge() {
-        for (String text : new String[] {"6", "/1a", "60a", "06a", "00a", "33?a", "0a", "a", "01g", "01A", "01`", "01.a",
-            "01??a", "01a?", "01?a?b", "01a1", "01ab ", "01 a", "?01a", "01a01a"}) {
+        for (String text : new String[] {"6", "/1a", "60a", "06a", "00a", "33?a", "0a", "a", "01g", "01A", "01`",
+            "01.a", "01??a", "01a?", "01?a?b", "01a1", "01ab ", "01 a", "?01a", "01a01a"}) {
             Check.refused("bridge() of '" + text + "'", STATE, () -> Check.page(text), SongToBridge::bridge);
         }
     }
@@ -546,7 +546,8 @@ public final class BridgeEdgesTest {
         for (int n = 1; n <= 5; n++) {
             String text = "01?" + "abcde".substring(0, n);
             for (int i : new int[] {-1, n, n + 1, 5, 6}) {
-                Check.refused("change(0, " + i + ", 0) of " + n, UNKNOWN, () -> Check.with(text), x -> x.change(0, i, 0));
+                Check.refused("change(0, " + i + ", 0) of " + text, UNKNOWN, () -> Check.with(text),
+                    x -> x.change(0, i, 0));
             }
         }
     }

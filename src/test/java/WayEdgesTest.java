@@ -213,6 +213,15 @@ public final class WayEdgesTest {
         }
     }
 
+    @Says(promise = 0, text = "VERSES six (a to f; 0 to 5)")
+    private static void firstOfEachVerse() {
+        for (int v = 0; v < 6; v++) {
+            SongToBridge x = walker(63 & ~(1 << v), 30, "01" + (char) ('a' + v));
+            x.teach(0, v, 99);
+            due("first(0)", v, x.first(0));
+        }
+    }
+
     @Says(promise = 0, text = "of VERSES that are taught in its PLACE")
     private static void firstWhereItIs() {
         SongToBridge x = walker(0b000001, 30, "01a", "12b");
@@ -327,6 +336,20 @@ public final class WayEdgesTest {
         SongToBridge far = Check.with("01abcde", "12abcde", "23abcde", "34abcde", "45abcde");
         far.singer(0, 0b011111, 1, 1, 0);
         dueCheapest("much more than all breath", 0, 0, far, 5);
+    }
+
+    @Says(promise = 0, text = "so that one can come to a PLACE")
+    private static void cheapestAcrossAllPlaces() {
+        SongToBridge x = pupil(50, "45a", "34a", "23a", "12a", "01a");
+        x.teach(0, 0, 50);
+        for (int place = 1; place < 6; place++) {
+            dueCheapest("to " + place, 50, 0b000001, x, place);
+        }
+        SongToBridge y = pupil(15, "45e", "34d", "23c", "12b", "01a");
+        for (int v = 0; v < 5; v++) {
+            y.teach(v, v, 5 - v);
+        }
+        dueCheapest("a verse in each place", 15, 0b011111, y, 5);
     }
 
     @Says(promise = 0, text = "none, if it is more than its PURSE")
@@ -506,6 +529,14 @@ public final class WayEdgesTest {
         x.singer(4, 0b011000, 0, 1, 0);
         dueChoir("there", 2, 0b00011, x, 0, 2);
         dueChoir("and back", 2, 0b00011, x, 2, 0);
+    }
+
+    @Says(promise = 0, text = "with which one could come from a PLACE to another one")
+    private static void choirAcrossAllPlaces() {
+        SongToBridge x = Check.with("45a", "34a", "23a", "12a", "01a");
+        x.singer(3, 0b000001, 0, 1, 0);
+        dueChoir("from the first to the last", 1, 0b00001, x, 0, 5);
+        dueChoir("from the last to the first", 1, 0b00001, x, 5, 0);
     }
 
     @Says(promise = 0, text = "of like ones the least bits")

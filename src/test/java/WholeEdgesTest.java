@@ -135,6 +135,20 @@ public final class WholeEdgesTest {
         due("a sixth", FULL, x.singer(0, 0, 0, 1, 0));
     }
 
+    @Says(promise = 0, text = "(those that come since are gone by restore())")
+    private static void whatOneWhoIsGoneUsedIsForgotten() {
+        SongToBridge x = Check.with("01a", "01b");
+        x.image();
+        x.singer(0, 0b000011, 9, 1, 0);
+        x.cross(0, 0);
+        due("who is gone then would forget", 1, x.told(0, 6));
+        x.restore();
+        x.singer(0, 0b000011, 9, 1, 0);
+        due("who comes anew would forget", 0, x.told(0, 6));
+        x.cross(0, 1);
+        due("and then still", 0, x.told(0, 6));
+    }
+
     @Says(promise = 0, text = "SONGS, all that SINGERS have, FEES, what was HEARD")
     private static void songsAreAsTheyWere() {
         SongToBridge x = Check.with("01!aab", "12~abcde");
@@ -350,6 +364,27 @@ public final class WholeEdgesTest {
         int[] heard = {1, 2, 2, 3, 4, 5, 6, 7, 8, 0};
         SongToBridge x = Check.full();
         due("digest()", digestOf(numbersOf(x, heard, "01abcdefghijklmn")), x.digest());
+    }
+
+    @Says(promise = 29, text = "what cheapest() tells of PLACE 5 for 0 and 1")
+    private static void digestTellsOfPlaceFive() {
+        SongToBridge x = Check.with("01a", "12b", "23c", "34d", "45e");
+        for (int s = 0; s < 5; s++) {
+            x.singer(s, 1 << s, 30, 6, 99);
+            x.teach(s, s, s + 1);
+        }
+        due("fees to place 5", 14, x.cheapest(0, 5, 0));
+        due("digest()", digestOf(numbersOf(x, new int[0], "")), x.digest());
+    }
+
+    @Says(promise = 29, text = "what choir() tells of 0 and 5 for 0 and 1")
+    private static void digestTellsOfTheChoirFromZeroToFive() {
+        SongToBridge x = Check.with("05a", "15b", "04c");
+        x.singer(0, 0b000010, 0, 1, 0);
+        x.singer(0, 0b000100, 0, 1, 0);
+        x.singer(0, 0b000001, 0, 1, 0);
+        due("which one", 0b00100, x.choir(0, 5, 1));
+        due("digest()", digestOf(numbersOf(x, new int[0], "")), x.digest());
     }
 
     @Says(promise = 29, text = "letters of THE PAGE; what count() tells for 0 to 4")
