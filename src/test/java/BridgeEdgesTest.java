@@ -223,6 +223,21 @@ public final class BridgeEdgesTest {
         due("the digest", before, x.digest());
     }
 
+    @Says(promise = 3, text = "THE PAGE is empty")
+    private static void nothingShowsThroughFromBeforeBlank() {
+        SongToBridge x = Check.page("01?abcde");
+        x.blank();
+        Check.write(x, "23");
+        due("fault() of two digits", 2, x.fault());
+        due("two digits are no bridge", STATE, x.bridge());
+        Check.write(x, "f");
+        due("bridge()", 0, x.bridge());
+        int[] all = {0, 2, 3, 1, 1, 5, NONE, NONE, NONE, NONE};
+        for (int what = 0; what < all.length; what++) {
+            due("about(0, " + what + ")", all[what], x.about(0, what));
+        }
+    }
+
     // ---- fault
 
     /** Each code at the end of a text: those in 'fit' are no fault there. */
@@ -395,6 +410,20 @@ public final class BridgeEdgesTest {
         due("blank()", 0, x.blank());
         due("letters", 3, x.letters(Check.word("12f")));
         due("the next", 1, x.bridge());
+    }
+
+    @Says(promise = 5, text = "THE PAGE is empty then")
+    private static void nothingShowsThroughFromTheBridgeBefore() {
+        SongToBridge x = Check.with("01~abcde");
+        due("fault()", 0, x.fault());
+        Check.write(x, "45");
+        due("two digits are no bridge", STATE, x.bridge());
+        Check.write(x, "!b");
+        due("the next", 1, x.bridge());
+        int[] all = {2, 4, 5, 1, 1, 1, NONE, NONE, NONE, NONE};
+        for (int what = 0; what < all.length; what++) {
+            due("about(1, " + what + ")", all[what], x.about(1, what));
+        }
     }
 
     @Says(promise = 5, text = "THE PAGE is read as a BRIDGE")

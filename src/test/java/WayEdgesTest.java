@@ -59,6 +59,21 @@ public final class WayEdgesTest {
         dueHome("there, with bridges", 0, NONE, walker(63, 30, "01a", "10b"), 0);
     }
 
+    @Says(promise = 17, text = "1 by which BRIDGE first (NONE: it is there)")
+    private static void homeWhereItIsWithNineBridges() {
+        SongToBridge x = walker(63, 30, "01a", "02a", "03a", "04a", "05a", "10a", "20a", "30a", "40!aa");
+        dueHome("there, with nine bridges", 0, NONE, x, 0);
+        dueHome("of the fourth and the ninth by the lesser", 1, 3, x, 4);
+        x.change(3, 0, 1);
+        x.singer(0, 0b000001, 1, 1, 0);
+        due("by the ninth alone", 8, x.home(1, 4, 1));
+        due("there, without breath for any", NONE, breathlessAmongNine().home(0, 0, 1));
+    }
+
+    private static SongToBridge breathlessAmongNine() {
+        return walker(63, 0, "01a", "02a", "03a", "04a", "05a", "10a", "20a", "30a", "40a");
+    }
+
     @Says(promise = 0, text = "none, if that is more than it has left")
     private static void homeWithJustEnoughBreath() {
         for (int breath = 0; breath <= 9; breath++) {
